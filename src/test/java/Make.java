@@ -1,0 +1,76 @@
+/** Makes objects for the tests. */
+final class Make {
+    /** 4 kinds, 3 records, 3 services. */
+    static final String BOOK = "failure bad; failure worse of bad; failure worst of worse; failure odd;\n"
+        + "record pair { int a; long b; double c; boolean d; text e; pair next; }\n"
+        + "service plain { int add(int, int); long sum(int, long, boolean); double real(double);\n"
+        + " boolean is(boolean); text say(text); pair pass(pair); plain who(plain); int nil(); }\n"
+        + "record box { plain p; pair q; int n; }\n"
+        + "service other { box open(box); other which(plain, other); text tell(pair, box);\n"
+        + " pair both(pair, pair, box); plain swap(plain, other); int add(int, int); double nil(); boolean say(int); }\n"
+        + "record empty { }\n"
+        + "service lone { lone self(lone); boolean truth(int); double bits(long); pair none(int); }";
+
+    static final int ECHO = 0, COUNT = 1, FAIL = 2, KEEP = 3, RAISE = 4, RELAY = 5;
+    static final int PAIR = 10, BOX = 11, EMPTY = 12, PLAIN = 20, OTHER = 21, LONE = 22;
+
+    private Make() {
+    }
+
+    /** Puts a text onto the tape. */
+    static void tape(RemoteDesks x, String text) {
+        int had = x.cut(0);
+        if (had < 0) {
+            throw new IllegalStateException("cut");
+        }
+        int length = text.length();
+        for (int i = 0; i < length; i += 20) {
+            int[] n = new int[5];
+            for (int k = 0; k < 20; k++) {
+                int c = i + k < length ? text.charAt(i + k) : ' ';
+                n[k / 4] = n[k / 4] << 8 | c & 255;
+            }
+            x.feed(n[0], n[1], n[2], n[3], n[4]);
+        }
+        x.cut(length);
+    }
+
+    static int describe(RemoteDesks x, String text) {
+        tape(x, text);
+        return x.describe();
+    }
+
+    /** A new object with BOOK and some desks. */
+    static RemoteDesks withDesks(int desks) {
+        RemoteDesks x = new RemoteDesks();
+        if (describe(x, BOOK) != 3) {
+            throw new IllegalStateException("the book has a fault at " + x.place());
+        }
+        for (int i = 0; i < desks; i++) {
+            x.desk();
+        }
+        return x;
+    }
+
+    /** Lets all slots arrive, oldest first, until none is on the way. */
+    static void deliverAll(RemoteDesks x) {
+        for (int i = 0; i < 1000 && x.count(8) > 0; i++) {
+            x.through(0);
+        }
+    }
+
+    /** The bytes of slot i as text: numbers with blanks between them. */
+    static String bytes(RemoteDesks x, int i) {
+        StringBuilder all = new StringBuilder();
+        for (int k = 0; x.slot(i, k) != RemoteDesks.NONE && x.slot(i, k) != RemoteDesks.UNKNOWN; k++) {
+            all.append(k == 0 ? "" : " ").append(x.slot(i, k));
+        }
+        return all.toString();
+    }
+
+    static void letters(RemoteDesks x, String text) {
+        for (int i = 0; i < text.length(); i++) {
+            x.letter(text.charAt(i));
+        }
+    }
+}
