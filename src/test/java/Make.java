@@ -62,8 +62,10 @@ final class Make {
     /** The bytes of slot i as text: numbers with blanks between them. */
     static String bytes(RemoteDesks x, int i) {
         StringBuilder all = new StringBuilder();
-        for (int k = 0; x.slot(i, k) != RemoteDesks.NONE && x.slot(i, k) != RemoteDesks.UNKNOWN; k++) {
-            all.append(k == 0 ? "" : " ").append(x.slot(i, k));
+        int b = x.slot(i, 0);
+        for (int k = 1; b >= 0; k++) {
+            all.append(k == 1 ? "" : " ").append(b);
+            b = x.slot(i, k);
         }
         return all.toString();
     }
