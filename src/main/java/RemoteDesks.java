@@ -1634,7 +1634,9 @@ public final class RemoteDesks {
 
         void drop() {
             kept = 0;
-            Arrays.fill(here, false);
+            for (int i = 0; i < MOST_PARTS; i++) {
+                here[i] = false;
+            }
         }
 
         /** Keeps the PART in a SLOT: whether all are there. */

@@ -14,6 +14,7 @@ public final class BookTest {
         notTold();
         leastFault();
         counts();
+        greatestBook();
         CHECK.end();
     }
 
@@ -297,5 +298,49 @@ public final class BookTest {
         }
         CHECK.due("slots", x.count(8), 40);
         CHECK.due("lost", x.count(10), 3);
+    }
+
+    /** The last kind, record, field, service, method and argument that a book can have. */
+    private static void greatestBook() {
+        CHECK.part("the greatest book");
+        RemoteDesks x = new RemoteDesks();
+        String text = "failure ka;failure kb of ka;failure kc;failure kd;failure ke;failure kf;failure kg;failure kh of kb;"
+            + many("record r", 5, "{boolean a;}") + "record rf{int a;int b;int c;int d;int e;text f;}"
+            + many("service s", 7, "{long a(long);}") + "service sh{" + many("int ", 7, "(int,int,int);")
+            + "text h(int,rf,text);}";
+        CHECK.due("describe", Make.describe(x, text), 8);
+        x.desk();
+        x.desk();
+        x.node(5);
+        x.node(4);
+        Make.letters(x, "ab");
+        CHECK.due("the last field", x.set(0, 5, 0), 1);
+        CHECK.due("it", x.field(0, 5), 2);
+        CHECK.due("one more", x.set(0, 6, 0), Check.UNKNOWN);
+        CHECK.due("a field of another record", x.set(1, 0, 1), 1);
+        CHECK.due("one more", x.set(1, 1, 0), Check.UNKNOWN);
+        CHECK.due("object", x.object(0, 7, Make.ECHO, 0, 0), 0);
+        CHECK.due("object", x.object(0, 6, Make.ECHO, 0, 0), 1);
+        x.give(1, 0);
+        x.hand(0, 1);
+        x.hand(15, 0);
+        Make.letters(x, "xyz");
+        x.hand(4, 0);
+        CHECK.due("other sorts", x.call(1, 0, 6), Check.NOT);
+        CHECK.due("the last method", x.call(1, 0, 7), 0);
+        Make.deliverAll(x);
+        CHECK.due("its text", x.value(0), 3);
+        CHECK.due("the node's text", x.letterAt(2, 5, 1), 'b');
+        x.failure(8, 1, -1);
+        x.object(0, 7, Make.FAIL, 0, 0);
+        x.give(1, 2);
+        CHECK.due("kind 8", x.knows(1, 8, false), 1);
+        CHECK.due("kind 9", x.knows(1, 9, false), Check.UNKNOWN);
+        for (int i = 0; i < 3; i++) {
+            x.hand(0, i);
+        }
+        x.call(1, 2, 0);
+        Make.deliverAll(x);
+        CHECK.due("what kind 8 is of", x.tree(1, 0, 0), 2);
     }
 }

@@ -14,6 +14,7 @@ public final class CallsTest {
         lateAnswer();
         partsInAnyOrder();
         partsOfAnswers();
+        partsAtACallerThatStartsAnew();
         otherNumberOfParts();
         aged();
         agedIsNotKept();
@@ -256,6 +257,24 @@ public final class CallsTest {
         CHECK.due("kept", x.audit(0, 5), 0);
         CHECK.due("state", x.state(0), 1);
         CHECK.due("thanks", x.slot(0, 1), 2);
+    }
+
+    private static void partsAtACallerThatStartsAnew() {
+        CHECK.part("parts of an answer at a desk that starts anew");
+        RemoteDesks x = twoDesks(Make.ECHO);
+        x.node(0);
+        x.hand(Make.PAIR, 0);
+        x.call(0, 0, PASS);
+        x.through(0);
+        x.through(0);
+        x.through(0);
+        CHECK.due("kept", x.audit(0, 5), 1);
+        x.restart(0);
+        CHECK.due("gone", x.audit(0, 5), 0);
+        x.through(0);
+        CHECK.due("the other one is kept", x.audit(0, 5), 1);
+        CHECK.due("no thanks", x.count(8), 0);
+        CHECK.due("it took none", x.audit(0, 6), 0);
     }
 
     private static void otherNumberOfParts() {

@@ -219,6 +219,15 @@ public final class DeedsTest {
         x.hand(INT, 0);
         CHECK.due("an int: 0", x.value(x.call(0, 0, 5)), 0);
         CHECK.due("no such argument", x.told(0, 5), -1);
+        x.object(0, 0, Make.KEEP, 0, 0);
+        x.hand(Make.PLAIN, 3);
+        CHECK.due("nothing before", x.value(x.call(0, 3, WHO)), -1);
+        CHECK.due("kept", x.told(3, 5), 3);
+        x.hand(Make.PLAIN, 1);
+        CHECK.due("what it kept", x.value(x.call(0, 3, WHO)), 3);
+        CHECK.due("kept", x.told(3, 5), 1);
+        CHECK.due("an int: 0", x.value(x.call(0, 3, NIL)), 0);
+        CHECK.due("no argument", x.told(3, 5), -1);
     }
 
     private static void raise() {

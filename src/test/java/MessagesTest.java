@@ -57,6 +57,10 @@ public final class MessagesTest {
         CHECK.due("other sorts", x.call(0, 0, 0), Check.NOT);
         CHECK.due("other sorts at the host", x.call(1, 0, 0), Check.NOT);
         CHECK.due("the hand stays", x.open(), 2);
+        x.hand(BOOLEAN, 1);
+        x.hand(INT, 1);
+        CHECK.due("another first sort", x.call(0, 0, 0), Check.NOT);
+        x.open();
         x.hand(INT, 1);
         x.hand(INT, 1);
         x.hand(INT, 1);
@@ -293,6 +297,28 @@ public final class MessagesTest {
         x.hand(INT, 1);
         CHECK.due("244", x.call(0, 0, 2), Check.FULL);
         CHECK.due("the hand stays", x.open(), 2);
+        textAtTheEnd();
+    }
+
+    /** 3 + 4 * 52 + 1 bytes, then two texts: the last one ends ahead of the edge, at it or behind it. */
+    private static void textAtTheEnd() {
+        for (int letters = 0; letters <= 16; letters++) {
+            RemoteDesks x = new RemoteDesks();
+            Make.describe(x, "record r { text a; text b; text c; r n; } service s { int m(r, text, text); }");
+            x.desk();
+            x.desk();
+            x.object(1, 0, Make.COUNT, 0, 0);
+            x.give(0, 0);
+            longRow(x);
+            x.hand(10, 3);
+            Make.letters(x, "0123456789abc");
+            x.hand(TEXT, 0);
+            Make.letters(x, "0123456789abcdef".substring(0, letters));
+            x.hand(TEXT, 0);
+            CHECK.due("227 and " + letters, x.call(0, 0, 0), 227 + letters <= 240 ? 0 : Check.FULL);
+            Make.deliverAll(x);
+            CHECK.due("its deed", x.told(0, 2), 227 + letters <= 240 ? 1 : 0);
+        }
     }
 
     /** A row of nodes: 4 of 52 bytes (253, three texts), the last made of 28, a byte for the row's end: 237. */

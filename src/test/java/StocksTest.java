@@ -196,6 +196,12 @@ public final class StocksTest {
         Make.deliverAll(x);
         CHECK.due("state", x.state(1), 1);
         CHECK.due("there", x.stock(1, 0), 4);
+        x.carry(1, 0, 0, 1);
+        x.restart(0);
+        CHECK.due("one is moved", x.stock(-1, 0), 1);
+        Make.deliverAll(x);
+        CHECK.due("it went back", x.stock(1, 0), 4);
+        CHECK.due("none is moved", x.stock(-1, 0), 0);
     }
 
     private static void agedBehindTheDeed() {
