@@ -58,6 +58,25 @@ public final class BookTest {
         CHECK.due("feed", x.feed(0x74293b20, 0x7d202020, 0xff00ff00, 0xffffffff, 0), 40);
         CHECK.due("cut(28)", x.cut(28), 12);
         CHECK.due("describe", x.describe(), 1);
+        cutAway();
+    }
+
+    /** What was cut away is not read, and the last byte of the longest tape is. */
+    private static void cutAway() {
+        RemoteDesks x = new RemoteDesks();
+        Make.tape(x, "failure abcdefghijklm;");
+        x.cut(16);
+        CHECK.due("describe", x.describe(), -3);
+        CHECK.due("place", x.place(), 16);
+        StringBuilder text = new StringBuilder("failure a;");
+        while (text.length() < 1499) {
+            text.append('\n');
+        }
+        CHECK.due("describe", Make.describe(x, text + "b"), -3);
+        CHECK.due("place", x.place(), 1499);
+        text.setLength(1490);
+        CHECK.due("describe", Make.describe(x, text + "failure b;"), 0);
+        CHECK.due("kinds", x.count(0), 3);
     }
 
     private static void describeOnce() {

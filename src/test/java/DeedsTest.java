@@ -271,6 +271,10 @@ public final class DeedsTest {
         x.hand(INT, 6);
         x.hand(INT, 7);
         CHECK.due("without nodes", x.value(x.call(0, 0, 5)), 6);
+        x.object(0, 0, Make.RAISE, 0, 0);
+        x.hand(Make.PLAIN, 1);
+        CHECK.due("an object", x.value(x.call(0, 2, WHO)), 1);
+        CHECK.due("the node of that number stays", x.field(1, 0), 1);
     }
 
     private static void raiseOfManyNodes() {
