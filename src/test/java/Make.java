@@ -14,6 +14,10 @@ final class Make {
     static final int ECHO = 0, COUNT = 1, FAIL = 2, KEEP = 3, RAISE = 4, RELAY = 5;
     static final int PAIR = 10, BOX = 11, EMPTY = 12, PLAIN = 20, OTHER = 21, LONE = 22;
 
+    /** A record whose node has 26 bytes in a message, those of its text, and what its last field has; see row(). */
+    static final String ROW_RECORD = "record r{long a;long b;long c;text t;r n;}";
+    static final int ROW_NODES = 8;
+
     private Make() {
     }
 
@@ -73,6 +77,19 @@ final class Make {
     static void letters(RemoteDesks x, String text) {
         for (int i = 0; i < text.length(); i++) {
             x.letter(text.charAt(i));
+        }
+    }
+
+    /** Makes the first nodes, of ROW_RECORD, the last of which has so many bytes in a message: 209 at the least. */
+    static void row(RemoteDesks x, int bytes) {
+        int letters = bytes - 26 * ROW_NODES - 1;
+        for (int i = 0; i < ROW_NODES; i++) {
+            x.node(0);
+            x.set(i, 4, i - 1);
+            int own = Math.min(16, Math.max(0, letters));
+            letters -= own;
+            letters(x, "0123456789abcdef".substring(0, own));
+            x.set(i, 3, 0);
         }
     }
 }
